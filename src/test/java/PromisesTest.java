@@ -293,6 +293,15 @@ public final class PromisesTest {
         due.is("over by 3", x.told(1), 34);
         due.is("no earth below 0", x.told(0), 0);
 
+        // Beyond what an object is promised for, since no fewer calls get there.
+        for (int k = x.told(3); k < 999; k++) {
+            x.round(0, 1);
+        }
+        due.is("999", x.told(3), 999);
+        due.is("there were 999", x.round(0, 1), BarrowPlank.STATE);
+        due.is("bad ahead of state", x.round(0, 0), BarrowPlank.BAD);
+        due.is("999 still", x.told(3), 999);
+
         BarrowPlank tired = with("tire 99;shovel 0");
         tired.man(0, 0, 1);
         tired.round(0, 2);
@@ -377,6 +386,13 @@ public final class PromisesTest {
         x.yard(3, 0, 0);
         x.yard(3, 1, 9);
         due.is("as it is now", x.run(0, 1, 1, 1), 1 + 40 + 12 + 4 * 8 - 2);
+        due.is("another site", read(x, "shovel 1"), 1);
+        due.is("as it says now", x.round(0, 1), 41);
+        x.yard(4, 0, 8);
+        x.round(0, 1);
+        x.round(0, 1);
+        due.is("9", x.at(4, 0), 9);
+        due.is("9 at most", x.at(7, 0), 9);
     }
 
     private static void conditions() {
@@ -816,6 +832,7 @@ public final class PromisesTest {
         x.act(0, 2, 1);
         x.man(6, 1, 1);
         due.is("site", x.site(), 1);
+        put(x, "shovel 70");
         x.yard(3, 0, 0);
         x.yard(3, 1, 0);
         x.yard(3, 2, 0);
