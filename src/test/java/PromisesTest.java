@@ -37,26 +37,8 @@ public final class PromisesTest {
         due.end();
     }
 
-    private static BarrowPlank with(String site) {
-        BarrowPlank x = new BarrowPlank();
-        put(x, site);
-        due.is("site " + site, x.site(), 0);
-        return x;
-    }
-
-    private static void put(BarrowPlank x, String text) {
-        for (int k = 0; k < text.length(); k++) {
-            x.feed(text.charAt(k));
-        }
-    }
-
-    private static int read(BarrowPlank x, String text) {
-        put(x, text);
-        return x.site();
-    }
-
     private static void fault(String text, int place) {
-        due.is("fault of " + text, read(new BarrowPlank(), text), -10 - place);
+        due.is("fault of " + text, Tapes.read(new BarrowPlank(), text), -10 - place);
     }
 
     private static void newObject() {
@@ -95,22 +77,22 @@ public final class PromisesTest {
     }
 
     private static void site() {
-        BarrowPlank x = with("tire 7;shovel 0");
+        BarrowPlank x = Tapes.with("tire 7;shovel 0");
         due.is("tape behind a site", x.count(3), 0);
         due.is("tire", x.told(4), 7);
         due.is("shovel", x.told(5), 0);
-        due.is("a fault", read(x, "tire 8;shovel 3;"), -26);
+        due.is("a fault", Tapes.read(x, "tire 8;shovel 3;"), -26);
         due.is("tire of the one that held", x.told(4), 7);
         due.is("tape behind a fault", x.count(3), 0);
-        due.is("second", read(x, "tire 2;tire 5"), 1);
+        due.is("second", Tapes.read(x, "tire 2;tire 5"), 1);
         due.is("the last tire", x.told(4), 5);
         due.is("shovel without", x.told(5), 2);
-        due.is("third", read(x, "shovel 99;shovel 4"), 2);
+        due.is("third", Tapes.read(x, "shovel 99;shovel 4"), 2);
         due.is("the last shovel", x.told(5), 4);
         due.is("tire without", x.told(4), 1);
-        due.is("fourth", read(x, "pace 1 y=0"), 3);
-        due.is("fifth", read(x, "pace 2 y=0"), 4);
-        due.is("sixth", read(x, "tire 9"), BarrowPlank.FULL);
+        due.is("fourth", Tapes.read(x, "pace 1 y=0"), 3);
+        due.is("fifth", Tapes.read(x, "pace 2 y=0"), 4);
+        due.is("sixth", Tapes.read(x, "tire 9"), BarrowPlank.FULL);
         due.is("tape stays", x.count(3), 6);
         due.is("sites", x.count(1), 5);
         x.man(0, 0, 20);
@@ -167,16 +149,16 @@ public final class PromisesTest {
         fault("pace 1 ((((((y=1))))))", 12);
         fault("pace 1 !(!(!(y=1)))", 12);
         fault("pace 1 !!!!!y=1;pace 1 (!!!!!y=1)", 28);
-        due.is("five open", read(new BarrowPlank(), "pace 1 !!!!!y=1&((((!y=1))))|!(!(!y=1))"), 0);
-        due.is("a ! ends with its F", read(new BarrowPlank(), "ease 1 !!!!!y=1&!!!!!y=2|!!!!!y=3"), 0);
+        due.is("five open", Tapes.read(new BarrowPlank(), "pace 1 !!!!!y=1&((((!y=1))))|!(!(!y=1))"), 0);
+        due.is("a ! ends with its F", Tapes.read(new BarrowPlank(), "ease 1 !!!!!y=1&!!!!!y=2|!!!!!y=3"), 0);
         String nine = "tire 1;tire 1;tire 1;tire 1;tire 1;tire 1;tire 1;tire 1;tire 1;";
-        due.is("ten clauses", read(new BarrowPlank(), nine + "tire 1"), 0);
+        due.is("ten clauses", Tapes.read(new BarrowPlank(), nine + "tire 1"), 0);
         fault(nine + "tire 1;", 69);
         fault(nine + "tire 1;tire 1", 69);
         String longest = "pace 1 " + "y=1|".repeat(23);
         fault(longest, 99);
-        due.is("99 signs and more", read(new BarrowPlank(), longest.substring(0, 98) + ";"), -10 - 99);
-        due.is("100 signs", read(new BarrowPlank(), "pace 12 y=10|" + "y=1|".repeat(21) + "y=9"), 0);
+        due.is("99 signs and more", Tapes.read(new BarrowPlank(), longest.substring(0, 98) + ";"), -10 - 99);
+        due.is("100 signs", Tapes.read(new BarrowPlank(), "pace 12 y=10|" + "y=1|".repeat(21) + "y=9"), 0);
         fault("pace 12 " + "y=1|".repeat(23), 100);
     }
 
@@ -223,7 +205,7 @@ public final class PromisesTest {
     }
 
     private static void told() {
-        BarrowPlank x = with("tire 3;shovel 1;spill 2 y=4");
+        BarrowPlank x = Tapes.with("tire 3;shovel 1;spill 2 y=4");
         x.man(0, 0, 5);
         x.round(0, 6);
         int[] told = {94, 4, 46, 1, 3, 1};
@@ -253,7 +235,7 @@ public final class PromisesTest {
     }
 
     private static void of() {
-        BarrowPlank x = with("tire 6");
+        BarrowPlank x = Tapes.with("tire 6");
         for (int kind = 0; kind < 7; kind++) {
             BarrowPlank y = new BarrowPlank();
             y.man(kind, kind + 1, kind + 2);
@@ -302,13 +284,13 @@ public final class PromisesTest {
         due.is("bad ahead of state", x.round(0, 0), BarrowPlank.BAD);
         due.is("999 still", x.told(3), 999);
 
-        BarrowPlank tired = with("tire 99;shovel 0");
+        BarrowPlank tired = Tapes.with("tire 99;shovel 0");
         tired.man(0, 0, 1);
         tired.round(0, 2);
         due.is("99", tired.of(0, 3), 99);
         due.is("tired by ten, cut", tired.round(0, 2), 40 + 20 * 9);
         due.is("99 at most", tired.of(0, 3), 99);
-        BarrowPlank ten = with("tire 10;shovel 0");
+        BarrowPlank ten = Tapes.with("tire 10;shovel 0");
         ten.man(0, 0, 1);
         ten.round(0, 2);
         due.is("ten tired", ten.run(0, 1, 1, 1), 60);
@@ -328,7 +310,7 @@ public final class PromisesTest {
         due.is("WAITING waits", waiting.run(0, 1, 10, 1), 67);
         due.is("WAITING fills no more", waiting.run(0, 1, 10, 0), 10);
 
-        BarrowPlank slow = with("tire 3");
+        BarrowPlank slow = Tapes.with("tire 3");
         slow.man(3, 3, 1);
         slow.yard(0, 2, 1);
         slow.round(0, 2);
@@ -350,7 +332,7 @@ public final class PromisesTest {
         due.is("SPILT loses 1", spilt.run(0, 1, 10, 3), 1);
         due.is("SPILT over", spilt.run(0, 1, 10, 0), 9);
 
-        BarrowPlank off = with("tire 6;spill 1 b=4");
+        BarrowPlank off = Tapes.with("tire 6;spill 1 b=4");
         off.man(6, 5, 1);
         off.yard(1, 2, 5);
         due.is("OFF on a board as wide as v", off.run(0, 1, 10, 1), 60);
@@ -363,7 +345,7 @@ public final class PromisesTest {
     }
 
     private static void roundsOnTheGround() {
-        BarrowPlank x = with("pace 2 s>0;pace 3 u=9;ease 1 b>1;ease 9 y=8;spill 2 l>8;shovel 1");
+        BarrowPlank x = Tapes.with("pace 2 s>0;pace 3 u=9;ease 1 b>1;ease 9 y=8;spill 2 l>8;shovel 1");
         x.man(0, 0, 20);
         x.yard(0, 1, 9);
         x.yard(1, 2, 2);
@@ -386,7 +368,7 @@ public final class PromisesTest {
         x.yard(3, 0, 0);
         x.yard(3, 1, 9);
         due.is("as it is now", x.run(0, 1, 1, 1), 1 + 40 + 12 + 4 * 8 - 2);
-        due.is("another site", read(x, "shovel 1"), 1);
+        due.is("another site", Tapes.read(x, "shovel 1"), 1);
         due.is("as it says now", x.round(0, 1), 41);
         x.yard(4, 0, 8);
         x.round(0, 1);
@@ -417,13 +399,13 @@ public final class PromisesTest {
     }
 
     private static int lostWith(String condition) {
-        BarrowPlank x = with("spill 1 (" + condition + ")&y=4");
+        BarrowPlank x = Tapes.with("spill 1 (" + condition + ")&y=4");
         placeOne(x);
         return x.run(0, 1, 6, 3);
     }
 
     private static int secondsWith(String site) {
-        BarrowPlank x = with("shovel 0;" + site);
+        BarrowPlank x = Tapes.with("shovel 0;" + site);
         placeOne(x);
         return x.run(0, 1, 6, 1);
     }
@@ -436,7 +418,7 @@ public final class PromisesTest {
     }
 
     private static void rest() {
-        BarrowPlank x = with("tire 50");
+        BarrowPlank x = Tapes.with("tire 50");
         x.man(0, 0, 1);
         x.round(0, 20);
         due.is("rest 20", x.rest(0, 20), 30);
@@ -449,7 +431,7 @@ public final class PromisesTest {
     }
 
     private static void run() {
-        BarrowPlank x = with("pace 1 s>0;tire 5;spill 1 y=0");
+        BarrowPlank x = Tapes.with("pace 1 s>0;tire 5;spill 1 y=0");
         x.man(0, 0, 9);
         due.is("no rounds", x.run(0, 0, 10, 1), 0);
         due.is("over", x.run(0, 4, 10, 0), 36);
@@ -508,7 +490,7 @@ public final class PromisesTest {
     }
 
     private static void boards() {
-        BarrowPlank x = with("pace 4 y=2&b=0;pace 5 y=7&b=0;pace 5 y=9&b<3;pace 1 y=0&b=4;shovel 0");
+        BarrowPlank x = Tapes.with("pace 4 y=2&b=0;pace 5 y=7&b=0;pace 5 y=9&b<3;pace 1 y=0&b=4;shovel 0");
         x.man(0, 0, 20);
         x.man(6, 9, 20);
         due.is("one", x.boards(0, 10, 1, 2, 0), 1 << 7);
@@ -555,14 +537,14 @@ public final class PromisesTest {
         due.is("the other first, both", x.turns(1, 0, 10, 85), 20);
         due.is("till earth ends", x.turns(0, 1, 20, 999), 100);
 
-        BarrowPlank slow = with("shovel 50");
+        BarrowPlank slow = Tapes.with("shovel 50");
         slow.man(0, 0, 20);
         slow.man(1, 0, 20);
         // Each fills 50 and walks 40: 0 is back at 90, 1 at 140, 0 (waits for the shovel till 100) at 190.
         due.is("waits for the shovel", slow.turns(0, 1, 1, 189), 2);
         due.is("waited for the shovel", slow.turns(0, 1, 1, 190), 3);
 
-        BarrowPlank late = with("pace 30 k=2");
+        BarrowPlank late = Tapes.with("pace 30 k=2");
         late.man(2, 0, 20);
         late.man(0, 0, 20);
         // 0 would take 660 seconds; though 1 could be back in time, it ends with the first that does not.
@@ -580,7 +562,7 @@ public final class PromisesTest {
     }
 
     private static void worth() {
-        BarrowPlank x = with("pace 1 s>0");
+        BarrowPlank x = Tapes.with("pace 1 s>0");
         x.man(0, 0, 20);
         due.is("alone", x.worth(0, 180), 30);
         x.man(0, 0, 20);
@@ -598,7 +580,7 @@ public final class PromisesTest {
         due.is("t -1", x.worth(0, -1), -1002);
         due.is("t 1000", x.worth(0, 1000), -1002);
 
-        BarrowPlank off = with("spill 20 k=6;pace 3 s>0");
+        BarrowPlank off = Tapes.with("spill 20 k=6;pace 3 s>0");
         off.man(6, 0, 20);
         off.man(0, 0, 20);
         // With the ground made soft two rounds of 120 instead of three of 60.
@@ -606,7 +588,7 @@ public final class PromisesTest {
     }
 
     private static void pave() {
-        BarrowPlank x = with("pace 2 s>4;pace 3 u>4;ease 9 s>0&y=6");
+        BarrowPlank x = Tapes.with("pace 2 s>4;pace 3 u>4;ease 9 s>0&y=6");
         x.man(0, 0, 20);
         due.is("all the same", x.pave(0, 10), 0);
         x.yard(3, 0, 5);
@@ -623,7 +605,7 @@ public final class PromisesTest {
         due.is("load 0", x.pave(0, 0), BarrowPlank.BAD);
         due.is("load 21", x.pave(0, 21), BarrowPlank.BAD);
 
-        BarrowPlank worse = with("ease 1 s>0");
+        BarrowPlank worse = Tapes.with("ease 1 s>0");
         worse.man(0, 0, 20);
         worse.yard(0, 0, 1);
         worse.yard(1, 0, 1);
@@ -631,7 +613,7 @@ public final class PromisesTest {
     }
 
     private static void odds() {
-        BarrowPlank x = with("spill 20 y=0;spill 1 l=20&y<3;spill 0 y=9");
+        BarrowPlank x = Tapes.with("spill 20 y=0;spill 1 l=20&y<3;spill 0 y=9");
         x.man(0, 0, 20);
         x.man(4, 2, 20);
         x.man(5, 8, 20);
@@ -663,7 +645,7 @@ public final class PromisesTest {
         due.is("p 11", x.odds(0, 1, 11, 0), BarrowPlank.NO);
         due.is("part -1", x.odds(0, 1, 1, -1), BarrowPlank.NO);
         due.is("part 2", x.odds(0, 1, 1, 2), BarrowPlank.NO);
-        BarrowPlank all = with("spill 1 y<10");
+        BarrowPlank all = Tapes.with("spill 1 y<10");
         all.man(0, 0, 1);
         due.is("ten yards", all.odds(0, 1, 1, 0), 3486784401L);
         due.is("ten yards, below", all.odds(0, 1, 1, 1), 10000000000L);
@@ -687,7 +669,7 @@ public final class PromisesTest {
     }
 
     private static void looked() {
-        BarrowPlank x = with("pace 1 s>0");
+        BarrowPlank x = Tapes.with("pace 1 s>0");
         x.man(0, 0, 20);
         due.is("an empty book", x.looked(0, 10), -5);
         x.book(60);
@@ -705,7 +687,7 @@ public final class PromisesTest {
         due.is("load 21", x.looked(0, 21), BarrowPlank.BAD);
         x.book(-1);
         int[] day = {60, 60, 80, 80, 80, 100, 0, 0, 0, 0, 0, 0};
-        BarrowPlank y = with("pace 1 s=1|s=2;pace 1 s=2;pace 2 s>2");
+        BarrowPlank y = Tapes.with("pace 1 s=1|s=2;pace 1 s=2;pace 2 s>2");
         y.man(0, 0, 20);
         y.round(0, 10);
         for (int n : day) {
@@ -820,19 +802,19 @@ public final class PromisesTest {
     }
 
     private static void undo() {
-        BarrowPlank x = with("tire 3;shovel 1");
+        BarrowPlank x = Tapes.with("tire 3;shovel 1");
         x.man(4, 2, 5);
         x.yard(3, 0, 4);
         x.yard(3, 1, 5);
         x.yard(3, 2, 6);
         x.book(43);
-        put(x, "tire 8");
+        Tapes.put(x, "tire 8");
         x.round(0, 6);
         due.is("image", x.image(), 1);
         x.act(0, 2, 1);
         x.man(6, 1, 1);
         due.is("site", x.site(), 1);
-        put(x, "shovel 70");
+        Tapes.put(x, "shovel 70");
         x.yard(3, 0, 0);
         x.yard(3, 1, 0);
         x.yard(3, 2, 0);
@@ -871,13 +853,13 @@ public final class PromisesTest {
     }
 
     private static void count() {
-        BarrowPlank x = with("tire 3");
+        BarrowPlank x = Tapes.with("tire 3");
         x.man(0, 0, 1);
         x.man(0, 0, 1);
         x.book(1);
         x.book(1);
         x.book(1);
-        put(x, "tire");
+        Tapes.put(x, "tire");
         x.act(0, 2, 0);
         int[] count = {2, 1, 3, 4, 3};
         for (int what = 0; what < count.length; what++) {
