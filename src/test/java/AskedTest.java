@@ -35,6 +35,7 @@ public final class AskedTest {
         traceOfTheLatest();
         asOneUnderThat();
         imageOfAll();
+        imageOfTapeAndBook();
         undoAgainAndAgain();
         due.end();
     }
@@ -317,6 +318,9 @@ public final class AskedTest {
             due.is("short of " + ends[k], x.turns(0, 1, 5, ends[k] - 1), k == 0 ? 0 : over[k - 1]);
             due.is("at " + ends[k], x.turns(0, 1, 5, ends[k]), over[k]);
         }
+        x.round(0, 5);
+        due.is("OVER that comes, not that came", x.turns(0, 1, 5, 0), 0);
+        due.is("behind a ROUND that went", x.turns(0, 1, 5, 40), 10);
         x.earth(12);
         due.is("EARTH goes on", x.turns(0, 1, 5, 999), 12);
         x.earth(0);
@@ -407,6 +411,15 @@ public final class AskedTest {
         }
         worse.yard(7, 0, 0);
         due.is("where nothing changes, if all else is worse", worse.pave(0, 1), 7);
+        // YARD 2 would take 1 less, YARD 7 2 less; at 1 or below 0 it would be otherwise.
+        String[] one = {"s", "u"};
+        for (int what = 0; what < 2; what++) {
+            BarrowPlank none = Tapes.with("pace 4 y=2&#=5;pace 3 y=2&#=0;pace 3 y=7&#=5;pace 1 y=7&#=0;pace 9 y=7&#=1"
+                .replace('#', one[what].charAt(0)), 0, 0, 20);
+            none.yard(2, what, 5);
+            none.yard(7, what, 5);
+            due.is("as if it were 0", none.pave(0, 1), 7);
+        }
         due.is("LOAD 0", x.pave(0, 0), BarrowPlank.BAD);
         due.is("LOAD 21", x.pave(0, 21), BarrowPlank.BAD);
         due.is("LOAD 20", x.pave(0, 20), 0);
@@ -632,6 +645,28 @@ public final class AskedTest {
         due.is("his ROUND", bare.round(0, 1), 43);
         due.is("the BOOK from the first on", bare.book(43), 1);
         due.is("what is in it", bare.looked(0, 1), -5);
+    }
+
+    /** It holds the signs of THE TAPE and the rows of the BOOK, not only how many there are. */
+    private static void imageOfTapeAndBook() {
+        BarrowPlank x = plain(0, 0);
+        Tapes.put(x, "tire 55");
+        x.book(42);
+        x.book(42);
+        x.image();
+        due.is("THE TAPE is a SITE", x.site(), 0);
+        due.is("another one on it", Tapes.read(x, "shovel 66"), 1);
+        x.book(-1);
+        x.book(1);
+        x.book(2);
+        x.book(3);
+        due.is("undo", x.undo(), 1);
+        due.is("no SITE holds", x.told(4) * 100 + x.told(5), 102);
+        due.is("the BOOK as it was", x.count(2), 2);
+        due.is("its rows as they were", x.looked(0, 1), -5);
+        due.is("THE TAPE as it was", x.count(3), 7);
+        due.is("its signs as they were", x.site(), 0);
+        due.is("tire by them", x.told(4), 55);
     }
 
     /** "All is as THE IMAGE": it stays, and undo() may come again; image() takes another one. */

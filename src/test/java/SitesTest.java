@@ -3,6 +3,8 @@ public final class SitesTest {
     private static final Due due = new Due();
     private static final String[] ASKING = {"pace", "ease", "spill"};
     private static final String[] PLAIN = {"tire", "shovel"};
+    private static final String[] WHOLE = {"pace 1 !(y=1|s<2)&u>3", "ease 20 b=1&(l<10|!k>9)", "spill 0 ((y=0))",
+        "tire 5", "shovel 99"};
     private static final String HUNDRED = "pace 12 y=10|" + "y=1|".repeat(21) + "y=9";
 
     public static void main(String[] args) {
@@ -15,6 +17,8 @@ public final class SitesTest {
         fiveOpen();
         openTillItsEnd();
         sizeIfItEndsTooEarly();
+        sizeOfHundredSigns();
+        emptyThen();
         firstThatCannotGoOn();
         orderOfTests();
         testsOfEachNumber();
@@ -207,8 +211,7 @@ public final class SitesTest {
 
     /** "(the size, if it ends too early)" */
     private static void sizeIfItEndsTooEarly() {
-        String[] whole = {"pace 1 !(y=1|s<2)&u>3", "ease 20 b=1&(l<10|!k>9)", "spill 0 ((y=0))", "tire 5", "shovel 99"};
-        for (String one : whole) {
+        for (String one : WHOLE) {
             reads(one);
             for (int size = 0; size < one.length(); size++) {
                 String begun = one.substring(0, size);
@@ -218,6 +221,47 @@ public final class SitesTest {
                 } else {
                     reads(begun);
                 }
+            }
+        }
+    }
+
+    /** It may be that it ends too early with the last of 100 signs. */
+    private static void sizeOfHundredSigns() {
+        for (String one : WHOLE) {
+            for (int size = 0; size < one.length(); size++) {
+                String begun = clauseOf(100 - size) + one.substring(0, size);
+                due.is("its size", begun.length(), 100);
+                due.is("FAULT of " + begun, Tapes.read(new BarrowPlank(), begun),
+                    isWhole(one.substring(0, size)) ? 0 : -110);
+            }
+            reads(clauseOf(100 - one.length()) + one);
+        }
+    }
+
+    /** A CLAUSE with its ; that has so many signs, 11 or more. */
+    private static String clauseOf(int size) {
+        StringBuilder text = new StringBuilder("pace 1 ");
+        int longer = (size - 11) % 4;
+        for (int k = 0; k < (size - 11) / 4; k++) {
+            text.append("y=1|");
+        }
+        text.append("y=1;");
+        for (int k = 0; k < longer; k++) {
+            int at = k == 0 ? text.lastIndexOf("y=1;") : text.indexOf(k == 1 ? "y=1|" : "1 y");
+            text.insert(k < 2 ? at + 3 : at + 1, '2');
+        }
+        return text.toString();
+    }
+
+    /** THE TAPE "is empty then": what stood there before is no part of what comes. */
+    private static void emptyThen() {
+        for (String one : WHOLE) {
+            for (int size = 0; size < one.length(); size++) {
+                String begun = one.substring(0, size);
+                BarrowPlank x = new BarrowPlank();
+                due.is("a longer FAULT", Tapes.read(x, one + "#"), -10 - one.length());
+                due.is("FAULT of " + begun + " behind it", Tapes.read(x, begun), isWhole(begun) ? 0 : -10 - size);
+                due.is("with nothing on it", x.site(), -10);
             }
         }
     }
@@ -259,6 +303,12 @@ public final class SitesTest {
         faults("pace 1", 6);
         faults("pace 1;tire 1", 6);
         faults("pace 1 1=y", 7);
+        faults("pace 1 =1", 7);
+        faults("pace 1 <9", 7);
+        faults("pace 1 >0", 7);
+        faults("pace 1 !=1", 8);
+        faults("pace 1 y=1&=2", 11);
+        faults("pace 1 y=1|(<2)", 12);
         faults("pace 1 y=s", 9);
         faults("pace 1 y<=1", 9);
         faults("pace 1 y1", 8);
@@ -383,6 +433,10 @@ public final class SitesTest {
         due.is("the first", x.run(0, 1, 2, 1) * 100 + x.run(0, 1, 2, 3) * 10 + x.run(0, 1, 2, 2), 5016);
         Tapes.read(x, "ease 1 y=1");
         due.is("the second alone", x.run(0, 1, 2, 1) * 100 + x.run(0, 1, 2, 3) * 10 + x.run(0, 1, 2, 2), 4201);
+        due.is("a ROUND by the second", x.round(0, 2), 42);
+        Tapes.read(x, "pace 1 y=1;spill 2 y=2");
+        due.is("a ROUND by the third", x.round(0, 2), 46);
+        due.is("OVER by both", x.told(1), 2);
     }
 
     /** "-10 less the FAULT (the one that held holds)"; THE TAPE "is empty then" */
