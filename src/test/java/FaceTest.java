@@ -1,15 +1,11 @@
-import java.io.IOException;
 import java.lang.reflect.Constructor;
 import java.lang.reflect.Field;
 import java.lang.reflect.Method;
 import java.lang.reflect.Modifier;
-import java.nio.file.Files;
-import java.nio.file.Path;
 import java.util.Set;
 import java.util.TreeSet;
-import java.util.regex.Pattern;
 
-/** The face is the document's and nothing more, and the text keeps to what LANGUAGE.md leaves. */
+/** The face is the document's and nothing more. */
 public final class FaceTest {
     private static final Due due = new Due();
 
@@ -19,11 +15,10 @@ public final class FaceTest {
         "int worth 2", "int pave 2", "long odds 4", "int book 1", "int looked 2", "int act 3", "int trace 1",
         "int as 2", "int image 0", "int undo 0", "int count 1"};
 
-    public static void main(String[] args) throws IOException {
+    public static void main(String[] args) {
         methods();
         fieldsAndConstructor();
         nestedClasses();
-        text();
         due.end();
     }
 
@@ -34,6 +29,10 @@ public final class FaceTest {
             if (Modifier.isPublic(m.getModifiers())) {
                 found.add(m.getReturnType() + " " + m.getName() + " " + m.getParameterCount());
                 names.add(m.getName());
+                for (Class<?> p : m.getParameterTypes()) {
+                    due.holds(m + " takes ints alone", p == int.class);
+                }
+                due.holds(m + " is no static one", !Modifier.isStatic(m.getModifiers()));
             }
         }
         due.holds("the methods are the document's", found.equals(new TreeSet<>(Set.of(FACE))));
@@ -60,11 +59,26 @@ public final class FaceTest {
                 || Modifier.isFinal(f.getModifiers()));
         }
         due.holds("the constants are the document's", shown.equals(Set.of("NONE", "BAD", "STATE", "FULL", "NO")));
+        constants();
         Constructor<?>[] made = BarrowPlank.class.getDeclaredConstructors();
         due.is("constructors", made.length, 1);
         due.holds("it is public", Modifier.isPublic(made[0].getModifiers()));
         due.is("its parameters", made[0].getParameterCount(), 0);
         due.holds("the class is final", Modifier.isFinal(BarrowPlank.class.getModifiers()));
+    }
+
+    private static void constants() {
+        String[] names = {"NONE", "BAD", "STATE", "FULL", "NO"};
+        long[] values = {-1, -2, -3, -4, Long.MIN_VALUE};
+        for (int k = 0; k < names.length; k++) {
+            try {
+                Field f = BarrowPlank.class.getField(names[k]);
+                due.holds(names[k] + " is of its type", f.getType() == (k < 4 ? int.class : long.class));
+                due.is(names[k], f.getLong(null), values[k]);
+            } catch (ReflectiveOperationException none) {
+                due.holds(names[k] + " can be seen", false);
+            }
+        }
     }
 
     private static void nestedClasses() {
@@ -82,17 +96,5 @@ public final class FaceTest {
             many += Modifier.isStatic(f.getModifiers()) ? 0 : 1;
         }
         return many;
-    }
-
-    private static void text() throws IOException {
-        String code = Files.readString(Path.of("src/main/java/BarrowPlank.java"))
-            .replaceAll("(?s)/\\*.*?\\*/", "").replaceAll("//[^\\n]*", "");
-        String[] ruledOut = {"\\bthrow\\b", "\\btry\\b", "\\bcatch\\b", "\\bsynchronized\\b", "\\bassert\\b", "->",
-            "::", "Exact\\b", "@", "\\bhashCode\\b", "\\btoString\\b", "\\bequals\\b", "\\bpackage\\b", "\\bRandom\\b",
-            "\\bThread\\b", "currentTimeMillis", "nanoTime", "java\\.io", "java\\.nio", "\\brecord\\b"};
-        for (String one : ruledOut) {
-            due.holds("no " + one, !Pattern.compile(one).matcher(code).find());
-        }
-        due.holds("signs 1 to 127 alone", code.chars().allMatch(c -> c > 0 && c < 128));
     }
 }
