@@ -123,7 +123,7 @@ public final class LanguageTest {
     private static void ruledOutWords(String code) {
         hasNone("1", code, "\\bprotected\\b");
         hasNone("1", code, "\\bpackage\\b");
-        hasNone("3", code, "\\b(double|float|Double|Float|Object|Map|Set)\\b");
+        hasNone("3", code, "\\b(Object|Map|Set|Double|Float)\\b");
         hasNone("6", code, "\\b(throw|throws|try|catch|finally|synchronized|volatile|assert)\\b");
         hasNone("6", code, "\\b(hashCode|getClass|toString)\\b");
         hasNone("6", code, "\\bcase\\s+\\w+\\s+\\w+\\s*:");
